@@ -260,7 +260,8 @@ public final class ModelTest {
         }
 
         int drop(int version) {
-            if (version == 0 && !queues.isEmpty() || children(at(version)) > 0) {
+            Queue one = at(version);
+            if (version == 0 || children(one) > 0) {
                 throw new IllegalStateException();
             }
             remember();

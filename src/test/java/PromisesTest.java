@@ -183,6 +183,10 @@ public final class PromisesTest {
         error("queue;push 0 1", -2, 14);
         error("queue;push 0 1 pop", -2, 15);
         error("queue;pushpop 0 1;", -2, 6);
+        error("queue;pushz 0 1;", -2, 6);
+        error("queue;apush 0 1;", -2, 6);
+        error("queue;push{0 1;", -2, 10);
+        error("queue;push`0 1;", -2, 10);
         error("queue;push\t0 1;", -2, 10);
         error("queue;push 0 1;" + (char) 176, -2, 15);
         error("queue;push 0 1" + (char) 0, -2, 14);
